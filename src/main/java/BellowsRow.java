@@ -693,32 +693,27 @@ public final class BellowsRow {
             }
             from = at;
             value = 0;
-            if (at >= size) {
-                kind = END;
-            } else if (isLetter(bytes[at])) {
-                kind = WORD;
-                while (at < size && isLetter(bytes[at])) {
-                    at++;
-                }
-            } else if (isDigit(bytes[at])) {
-                kind = NUMBER;
-                while (at < size && isDigit(bytes[at])) {
-                    value = value < HUGE ? value * 10 + bytes[at] - '0' : value;
-                    at++;
-                }
-            } else {
-                kind = bytes[at] == ';' ? SIGN : OTHER;
+            while (at < size && bytes[at] >= 'a' && bytes[at] <= 'z') {
                 at++;
             }
             past = at;
-        }
-
-        private static boolean isLetter(byte b) {
-            return b >= 'a' && b <= 'z';
-        }
-
-        private static boolean isDigit(byte b) {
-            return b >= '0' && b <= '9';
+            if (at > from) {
+                kind = WORD;
+                return;
+            }
+            while (at < size && bytes[at] >= '0' && bytes[at] <= '9') {
+                value = value < HUGE ? value * 10 + bytes[at] - '0' : value;
+                at++;
+            }
+            past = at;
+            if (at > from) {
+                kind = NUMBER;
+            } else if (at >= size) {
+                kind = END;
+            } else {
+                kind = bytes[at] == ';' ? SIGN : OTHER;
+                past = at + 1;
+            }
         }
 
         /** The first FAULT stays: the TOKENS behind it are not looked at. */
@@ -823,7 +818,35 @@ public final class BellowsRow {
                 return;
             }
             tape.step();
-            readRest(kind);
+            switch (kind) {
+                case POT:
+                    readPot();
+                    break;
+                case PIPE:
+                    readPipe();
+                    break;
+                case RUN:
+                    readRun();
+                    break;
+                case SWING:
+                    readSwing();
+                    break;
+                case WIND:
+                    readWind();
+                    break;
+                case ROOM:
+                    readRoom();
+                    break;
+                case PERSON:
+                    readPerson();
+                    break;
+                case RULE:
+                    readRule();
+                    break;
+                default:
+                    readChange();
+                    break;
+            }
             tape.expectSign();
             works.lines++;
         }
@@ -854,38 +877,6 @@ public final class BellowsRow {
                     return works.people.changes >= People.MOST_CHANGES;
                 default:
                     return false;
-            }
-        }
-
-        private void readRest(int kind) {
-            switch (kind) {
-                case POT:
-                    readPot();
-                    break;
-                case PIPE:
-                    readPipe();
-                    break;
-                case RUN:
-                    readRun();
-                    break;
-                case SWING:
-                    readSwing();
-                    break;
-                case WIND:
-                    readWind();
-                    break;
-                case ROOM:
-                    readRoom();
-                    break;
-                case PERSON:
-                    readPerson();
-                    break;
-                case RULE:
-                    readRule();
-                    break;
-                default:
-                    readChange();
-                    break;
             }
         }
 
@@ -1034,7 +1025,10 @@ public final class BellowsRow {
             int subjects = 0;
             // No TAPE has more TOKENS than bytes.
             for (int i = 0; i < tape.bytes.length; i++) {
-                int subject = passSubject();
+                int subject = tape.passes("draw") ? 0
+                    : tape.passes("push") ? 1
+                    : tape.passes("metal") ? 2
+                    : tape.passes("gas") ? 3 : NONE;
                 if (subject == NONE) {
                     break;
                 }
@@ -1044,13 +1038,6 @@ public final class BellowsRow {
                 tape.fail(1);
             }
             return subjects;
-        }
-
-        private int passSubject() {
-            return tape.passes("draw") ? 0
-                : tape.passes("push") ? 1
-                : tape.passes("metal") ? 2
-                : tape.passes("gas") ? 3 : NONE;
         }
     }
 

@@ -12,6 +12,10 @@ public final class FaultsTest {
         asking();
         tooMany();
         cutShort();
+        cutInside("run 1 atop", 8, 8);
+        cutInside("run 12", 5, 5);
+        cutInside("run 1 at 1; ", 10, 10);
+        cutInside("run 1 at 1;;", 11, -1);
         DUE.end();
     }
 
@@ -25,6 +29,16 @@ public final class FaultsTest {
         DUE.is("fault [" + text + "]", x.fault(0), what);
         DUE.is("place [" + text + "]", x.fault(1), place);
         DUE.is("lines [" + text + "]", x.count(7), 0);
+    }
+
+    /** What end() has cut off is not read, though it goes on with the TOKEN that was cut. */
+    private static void cutInside(String text, int n, int place) {
+        BellowsRow x = new BellowsRow();
+        Due.tape(x, text);
+        x.end(n);
+        DUE.is("works [" + text + "] cut to " + n, x.works(), place < 0 ? 1 : -4);
+        DUE.is("fault [" + text + "] cut to " + n, x.fault(0), place < 0 ? 0 : 1);
+        DUE.is("place [" + text + "] cut to " + n, x.fault(1), place);
     }
 
     private static void good(int lines, String text) {
@@ -62,6 +76,8 @@ public final class FaultsTest {
         bad(1, "run 1 at 0 ^1;");
         bad(1, "run 1 at 0^a;");
         bad(1, "run 1 at 0 ^run 1 at 0;");
+        bad(1, "^potz step 0 holds 0;");
+        bad(1, "^apot step 0 holds 0;");
         bad(2, "run 1 at ^99999999999999999999;");
         bad(2, "run 1 at ^4294967296;");
     }

@@ -177,6 +177,27 @@ public final class PromisesTest {
         is("no bend", x.pipe(1, 2), 0);
         is("no lever", x.pipe(1, 5), 0);
         is("bend of none", x.bend(1, 0, 0), NOTHING);
+        mostBends();
+    }
+
+    /** Eight MOVES, each unlike the one ahead. */
+    private static void mostBends() {
+        BellowsRow x = Due.made("pot step 0 holds 0;pot step 9 holds 0;"
+            + "pipe 0 to 1 bore 1 by right 10 up 1 right 20 down 5 right 30 up 2 right 40 down 7 bellows 0 life 1;");
+        is("seven bends", x.pipe(0, 2), 7);
+        is("the seventh: x", x.bend(0, 6, 0), 100);
+        is("the seventh: y", x.bend(0, 6, 1), -2);
+        is("the seventh: along", x.bend(0, 6, 2), 1);
+        is("the seventh: across", x.bend(0, 6, 3), 1);
+        is("no eighth", x.bend(0, 7, 0), NOTHING);
+        is("lever of seven", x.pipe(0, 5), 100);
+        long[] moves = {2, 1, 0, 10, 2, 2, 0, 20, 1, 5, 0, 30, 2, 11, 0, 40};
+        x.row(0, 3, 16);
+        for (int i = 0; i < moves.length; i++) {
+            x.write(0, i, moves[i]);
+        }
+        is("another way", x.lever(0, 0), 9);
+        is("and once more", x.lever(0, 0), 9);
     }
 
     private static void strains() {
@@ -213,7 +234,18 @@ public final class PromisesTest {
         is("no holds, weight alone", y.load(2, 0), 10000);
         is("bows at 0", y.bows(2), 0);
         is("load 10000 at most", y.load(3, 999), 10000);
-        is("need as long", y.need(3, 999), 999L * 1600 * 100 + 100L * 1900 * 40);
+        Due.tape(y, "pot step 0 holds 0;pot step 0 holds 0;pipe 0 to 1 bore 1 by up 1 right 100 down 1 bellows 989 life 9999 prop;"
+            + "pipe 0 to 1 bore 1 by up 1 right 100 down 1 bellows 990 life 9999 prop;");
+        is("works", y.works(), 4);
+        is("bows at 999", y.bows(0), 999);
+        is("would bow at 1000", y.bows(1), -1);
+        y.row(0, 3, 60);
+        y.write(0, 59, 5000L);
+        is("the last of sixty", y.other(0, 0), 59);
+        is("no more than 999", y.other(0, 1), -1);
+        Due.tape(y, "pot step 0 holds 0;pot step 0 holds 0;pipe 0 to 1 bore 40 by up 900 right 100 down 900 bellows 1 life 1;");
+        is("works", y.works(), 3);
+        is("need as long", y.need(0, 999), 999L * 1600 * 100 + 100L * 1900 * 40);
     }
 
     private static void goings() {
@@ -356,6 +388,39 @@ public final class PromisesTest {
         is("under 387", x.under(0, 387), 0);
         is("cap above all", x.cap(0), 999);
         hoursAlike();
+        mostStay();
+        swings();
+    }
+
+    /** LEVER 41 and 75, bore 10: NEED 3029900 and 3030000, that is 101 times 29999 and one more, and 101 times 30000. */
+    private static void mostStay() {
+        String ahead = "pot step 0 holds 9;pot step ";
+        BellowsRow x = Due.made(ahead + "41 holds 9;pipe 0 to 1 bore 10 by down 41 right 100 bellows 0 life 9999 prop;run 1 at 739;");
+        is("need", x.need(0, 739), 3029900);
+        is("stay 30000", x.stay(0), 30000);
+        Due.tape(x, ahead + "75 holds 9;pipe 0 to 1 bore 10 by down 75 right 100 bellows 0 life 9999 prop;run 1 at 404;");
+        is("works", x.works(), 4);
+        is("need", x.need(0, 404), 3030000);
+        is("stay 30001 is not to be had", x.stay(0), -1);
+        Due.tape(x, ahead + "75 holds 9;pipe 0 to 1 bore 10 by down 75 right 100 bellows 1 life 9999 prop;run 1 at 404;");
+        is("works", x.works(), 4);
+        is("stay 30000 beside bellows", x.stay(0), 30000);
+    }
+
+    private static void swings() {
+        BellowsRow x = Due.made("pot step 0 holds 5;swing 5 and 6 for 1;run 1 at 3;swing 4 and 6 for 2;swing 7 and 1 for 3;");
+        int[] press = {5, 3, 4, 6, 7, 1, 7};
+        for (int h = 0; h < press.length; h++) {
+            is("swing press " + h, x.press(h), press[h]);
+        }
+        is("bursts in the second of two", x.bursts(0), 3);
+        is("hours", x.count(2), 7);
+        BellowsRow y = Due.made("pot step 0 holds 5;" + "run 1 at 0;".repeat(58) + "run 1 at 6;");
+        is("sixty lines", y.count(7), 60);
+        is("the last hour", y.press(58), 6);
+        is("bursts in it", y.bursts(0), 58);
+        BellowsRow z = Due.made("run 1 at 0;".repeat(59) + "swing 8 and 9 for 2;");
+        is("the last line's hours", z.press(60), 9);
     }
 
     /** PRESSES that a bound makes alike wear no more. */
@@ -518,6 +583,10 @@ public final class PromisesTest {
         // PRESS 0 reaches 0, and a ROOM 0 away is in it
         is("no press", Due.made(ahead.replace("at 1;", "at 0;") + "room at 100 0" + end).taken(0, 0), 1);
         is("down from below", Due.made(ahead + "wind down 6;room at 100 0" + end).moved(0, 0, 0, 100, -60), -1);
+        is("lit in its first minute", Due.made(ahead + "wind down 50;room at 900 0" + end).moved(0, 0, 0, 100, -50), -1);
+        String still = ahead.replace("at 1;", "at 0;");
+        is("minute 60", Due.made(still + "wind right 6;room at 460 0" + end).lights(0, 0), 60);
+        is("no minute 61", Due.made(still + "wind right 6;room at 466 0" + end).lights(0, 0), -1);
         is("lit from below", Due.made(ahead + "wind down 50;room at 900 0" + end).moved(0, 0, 0, 100, -500), -1);
     }
 
@@ -558,6 +627,10 @@ public final class PromisesTest {
         is("safest flame, of others", z.safest(0, 0, 0), 0);
         // 0, 0 is taken, 0, 100 is not
         is("safest of the third", z.safest(0, 0, 2), 100);
+        BellowsRow w = Due.made("pot step 0 holds 9;pot step 0 holds 9;pipe 0 to 1 bore 40 by right 100 bellows 0 life 1;"
+            + "run 1 at 999;room at 650 0 day 1 night 5 flame;room at 50 0 day 1 night 10;");
+        // minute 10 reaches 632: of all places 900, 500 alone is more than 1264 away
+        is("safest in the corner", w.safest(0, 0, 1), 900500);
     }
 
     private static void days() {
@@ -594,7 +667,7 @@ public final class PromisesTest {
         is("asked -1", x.asked(-1, 0), -2);
         is("asked what 4", x.asked(0, 4), -2);
         is("asked what -1", x.asked(0, -1), -2);
-        int[][] who = {{0, 9, 0}, {0, 10, -1}, {0, 20, -1}, {0, 21, 0}, {1, 10, 2}, {1, 5, 0}, {2, 5, -1}, {2, 6, 2}, {3, 0, 1}, {3, 999, 1},
+        int[][] who = {{0, 9, 0}, {0, 10, -1}, {0, 20, -1}, {0, 21, 0}, {1, 10, 2}, {1, 5, 0}, {2, 5, -1}, {2, 6, 2}, {3, 0, 1}, {3, 1, 1}, {3, 2, 1}, {3, 999, 1},
             {4, 0, -2}, {-1, 0, -2}, {0, -1, -2}, {0, 1000, -2}};
         for (int[] w : who) {
             is("who " + w[0] + " on " + w[1], x.who(w[0], w[1]), w[2]);
