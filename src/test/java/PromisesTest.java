@@ -524,6 +524,10 @@ public final class PromisesTest {
         is("reach 61", x.reach(0, 3, 61), -2);
         is("reach in no hour", x.reach(0, 12, 1), -2);
         is("reach of none", x.reach(3, 0, 1), -2);
+        BellowsRow far = Due.made("pot step 0 holds 9;pot step 0 holds 9;pipe 0 to 1 bore 35 by right 100 bellows 0 life 1;"
+            + "pipe 0 to 1 bore 40 by right 100 bellows 0 life 1;run 1 at 600;run 1 at 999;");
+        is("reach of 1050000", far.reach(0, 0, 50), 1024);
+        is("reach of the most", far.reach(1, 1, 60), 1548);
         // HOUR 3: 14 away in minute 23 (reaches 15), in 22 16 away (reaches 14)
         is("lights", x.lights(0, 3), 23);
         is("lights in 8", x.lights(0, 8), 24);
