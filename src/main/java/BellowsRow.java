@@ -72,10 +72,10 @@ public final class BellowsRow {
         Works read = new Parser(tape).readWorks();
         latestFault = tape.fault;
         latestPlace = tape.place;
-        tape.size = 0;
         if (latestFault != 0) {
             return FAULTY;
         }
+        tape.size = 0;
         now = read;
         return now.lines;
     }

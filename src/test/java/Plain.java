@@ -422,11 +422,11 @@ final class Plain {
         faultPlace = -1;
         try {
             w = read();
+            tape = new byte[0];
         } catch (Fault f) {
             faultWhat = f.what;
             faultPlace = f.place;
         }
-        tape = new byte[0];
         return faultWhat == 0 ? w.lines : -4;
     }
 

@@ -106,7 +106,16 @@ public final class PromisesTest {
         is("fault 1", x.fault(1), 23);
         is("fault 2", x.fault(2), -1);
         is("fault -1", x.fault(-1), -1);
-        is("tape behind a fault", x.count(8), 0);
+        is("all stays: tape", x.count(8), 23);
+        is("all stays: tape, read again", x.works(), -4);
+        is("all stays: tape, at one place", x.fault(1), 23);
+        is("all stays: what is right of it", x.end(19), 19);
+        is("all stays: is the works then", x.works(), 1);
+        is("all stays: tape is empty then", x.count(8), 0);
+        Due.tape(x, ROW);
+        is("the row again", x.works(), 14);
+        Due.tape(x, "pot step 3 holds 1; run");
+        is("faulty again", x.works(), -4);
         is("all stays: lines", x.count(7), 14);
         is("all stays: pots", x.count(0), 3);
         is("all stays: height", x.height(2), -28);
