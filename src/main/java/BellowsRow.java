@@ -28,6 +28,8 @@ public final class BellowsRow {
     private static final int POT_APART = 100;
     private static final int POT_PIECE = 100;
     private static final int MORE_THAN_ANY = 2147483647;
+    // Far more than it takes to halve any range here down to one number.
+    private static final int MOST_HALVINGS = 40;
 
     private final Tape tape = new Tape();
     private final Works[] images = new Works[3];
@@ -204,7 +206,7 @@ public final class BellowsRow {
         int low = 0;
         int high = MOST_HOLDS + 1;
         // More stay never makes a LOAD greater, so the stays that are enough are all those from one on.
-        while (low < high) {
+        for (int halving = 0; halving < MOST_HALVINGS && low < high; halving++) {
             int middle = (low + high) / 2;
             strain.holds = holds + middle;
             if (middle > MOST_HOLDS || strain.goingHour(now.hours) == NONE) {
@@ -224,7 +226,7 @@ public final class BellowsRow {
         int low = NONE;
         int high = MOST_PRESS;
         // A lower cap makes no PRESS greater and no two unlike, so the caps that are enough are all those up to one.
-        while (low < high) {
+        for (int halving = 0; halving < MOST_HALVINGS && low < high; halving++) {
             int middle = high - (high - low) / 2;
             otherHours.takeShaped(now.hours, 0, middle);
             if (strain.goingHour(otherHours) == NONE) {
@@ -1017,7 +1019,9 @@ public final class BellowsRow {
             if (tape.passes("prop")) {
                 return 2;
             }
-            tape.expect("press");
+            if (!tape.passes("press")) {
+                tape.fail(1);
+            }
             return 3;
         }
 
@@ -1341,7 +1345,7 @@ public final class BellowsRow {
         int leastBowing() {
             int low = 0;
             int high = MOST_PRESS + 1;
-            while (low < high) {
+            for (int halving = 0; halving < MOST_HALVINGS && low < high; halving++) {
                 int middle = (low + high) / 2;
                 if (middle > MOST_PRESS || loadAt(middle) > BOWING) {
                     high = middle;

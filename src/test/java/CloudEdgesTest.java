@@ -72,6 +72,8 @@ public final class CloudEdgesTest {
         is("the twelfth", Due.made(Texts.cloud(100) + Texts.room(900, 0, 1).repeat(11) + Texts.flame(60, 0, 1)).taken(0, 0), 2048);
         is("all twelve", Due.made(Texts.cloud(100) + Texts.flame(60, 0, 1).repeat(12)).taken(0, 0), 4095);
         is("20 away, not 21", Due.made(Texts.cloud(100) + Texts.flame(60, 0, 1) + Texts.room(70, 0, 1) + Texts.room(71, 0, 1)).taken(0, 0), 3);
+        // minute 1 reaches 31: 0, 0 is in it, but no ROOM is there
+        is("none but those that are there", Due.made(Texts.cloud(999) + Texts.flame(50, 0, 1)).taken(0, 0), 1);
         is("no flame", Due.made(Texts.cloud(100) + Texts.room(50, 0, 1)).taken(0, 0), 0);
         is("too far", Due.made(Texts.cloud(15) + Texts.flame(81, 0, 1)).taken(0, 0), 0);
         SAID.says("29", "-2 likewise.");
@@ -110,6 +112,12 @@ public final class CloudEdgesTest {
         return Due.made(POT + POT + Texts.FLAT + "run 200 at 100;run 1 at 0;run 1 at 100;" + Texts.flame(60, 0, 1));
     }
 
+    /** PRESS 0, 999, 998 and 0 again, and two PIPES: the first takes 1 at PRESS 0 and 3 at the others, the second 0 and 3. */
+    private static BellowsRow ends() {
+        return Due.made(POT + POT + POT + Texts.FLAT + Texts.FLAT.replace("0 to 1", "1 to 2") + "run 1 at 0;run 1 at 999;run 1 at 998;run 1 at 0;"
+            + Texts.flame(50, 0, 1) + Texts.room(112, 0, 2));
+    }
+
     private static void when() {
         SAID.says("31", "The HOUR of those from one on, n of them (1 .. 200; as far as there are), in which it takes the fewest, the first of several.");
         BellowsRow x = nearlyAll();
@@ -126,6 +134,11 @@ public final class CloudEdgesTest {
         is("by day", day.when(0, 0, 30), 8);
         is("just not by day", day.when(0, 0, 8), 0);
         is("by day at last", day.when(0, 0, 9), 8);
+        BellowsRow ends = ends();
+        is("PRESS 0 takes the fewest", ends.when(0, 0, 3), 0);
+        is("of PRESS 999 and 998 the first", ends.when(0, 1, 2), 1);
+        is("another PIPE", ends.when(1, 0, 4), 0);
+        is("the PIPE again", ends.when(0, 1, 3), 3);
         SAID.says("31", "-2: there are none such.");
         for (int n : Texts.outside(1, 200)) {
             is("n " + n, x.when(0, 0, n), -2);
@@ -180,6 +193,16 @@ public final class CloudEdgesTest {
         is("1 from 200 on", x.risk(0, 200, 1), 0);
         is("2 from 200 on", x.risk(0, 200, 2), 1);
         is("the most", Due.made(POT + POT + Texts.FLAT + "run 200 at 100;" + Texts.flame(60, 0, 999).repeat(12)).risk(0, 0, 200), 200 * 11988);
+        BellowsRow ends = ends();
+        int[] first = {1, 3, 3, 1};
+        int[] second = {0, 3, 3, 0};
+        for (int hour = 0; hour < 4; hour++) {
+            is("PIPE 0, HOUR " + hour, ends.risk(0, hour, 1), first[hour]);
+            is("PIPE 1, HOUR " + hour, ends.risk(1, hour, 1), second[hour]);
+            is("PIPE 0 again, HOUR " + hour, ends.risk(0, hour, 1), first[hour]);
+        }
+        is("PIPE 0, all", ends.risk(0, 0, 4), 8);
+        is("PIPE 1, all", ends.risk(1, 0, 200), 6);
         SAID.says("33", "-2: there are none such.");
         for (int n : Texts.outside(1, 200)) {
             is("n " + n, x.risk(0, 0, n), -2);
@@ -230,6 +253,20 @@ public final class CloudEdgesTest {
         is("the last of twenty", Due.made(ahead + "change pot day 0 needs push;".repeat(19) + "change pot day 0 needs gas;").whole(), 1 << 19);
         is("all of twenty", Due.made(ahead + "change pot day 0 needs gas;".repeat(20)).whole(), (1 << 20) - 1);
         is("none of twenty", Due.made(ahead + "change pipe day 0 needs gas;".repeat(20)).whole(), 0);
+        is("the last PERSON knows it", Due.made("rule pot asks gas;" + "person knows draw;".repeat(11) + "person knows gas;change pot day 0 needs gas;").whole(), 1);
+        String[] kinds = {"pot", "pipe", "prop", "press"};
+        for (int kind = 0; kind < 4; kind++) {
+            StringBuilder changes = new StringBuilder("person knows draw push metal gas;rule " + kinds[kind] + " asks push gas;");
+            for (String of : kinds) {
+                changes.append("change ").append(of).append(" day 0 needs gas push;");
+            }
+            BellowsRow x = Due.made(changes.toString());
+            is("of KIND " + kind, x.whole(), 1 << kind);
+            for (int change = 0; change < 4; change++) {
+                is("asked of KIND " + change, x.asked(change, 0), change == kind ? 10 : 0);
+                is("not ruled of KIND " + change, x.asked(change, 1), change == kind ? 0 : 10);
+            }
+        }
     }
 
     private static void staying() {
@@ -261,6 +298,14 @@ public final class CloudEdgesTest {
         for (int change = 0; change < 3; change++) {
             for (int what = 0; what < 4; what++) {
                 is("CHANGE " + change + " what " + what, x.asked(change, what), due[change][what]);
+            }
+        }
+        String[] subjects = {"draw", "push", "metal", "gas"};
+        for (int s = 0; s < 4; s++) {
+            BellowsRow y = Due.made("rule pot asks " + subjects[s] + ";change pot day 0 needs " + subjects[s] + ";");
+            int[] unknown = {0, 0, 1 << s, 1 << s};
+            for (int what = 0; what < 4; what++) {
+                is("nobody knows " + subjects[s] + ", what " + what, y.asked(0, what), unknown[what]);
             }
         }
         SAID.says("37", "-2: there are none such.");
@@ -334,6 +379,7 @@ public final class CloudEdgesTest {
         // ASKS that no CHANGE needs are in vain for none of its KIND: the fewest ASKS leave them out
         BellowsRow w = Due.made("change prop day 0 needs gas;");
         is("the fewest ASKS", w.rules(16), 2048);
+        is("the fewest ASKS, though greater bits", Due.made("change pot day 0 needs draw push;change press day 0 needs gas;").rules(2), 32768);
         // the least bits of two alike
         BellowsRow v = Due.made("change press day 0 needs draw;change pipe day 0 needs gas;change prop day 0 needs push;");
         is("the least bits of one", v.rules(1), 128);

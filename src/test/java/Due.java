@@ -55,6 +55,14 @@ final class Due {
         }
     }
 
+    /** Gives a SLOT a row of these numbers. */
+    static void row(BellowsRow x, int slot, int width, long... numbers) {
+        x.row(slot, width, numbers.length);
+        for (int i = 0; i < numbers.length; i++) {
+            x.write(slot, i, numbers[i]);
+        }
+    }
+
     static BellowsRow made(String text) {
         BellowsRow x = new BellowsRow();
         tape(x, text);

@@ -25,6 +25,7 @@ public final class PipeEdgesTest {
         press();
         wear();
         goesAndWhy();
+        whyAlone();
         bursts();
         first();
         next();
@@ -447,6 +448,19 @@ public final class PipeEdgesTest {
         }
     }
 
+    private static void whyAlone() {
+        SAID.says("15", "Why it goes: 0 by LOAD, 1 by WEAR; NONE: it does not.");
+        String text = Texts.pushed(100, 9999) + Texts.pipe(200, 2) + Texts.pipe(200, 1) + "run 1 at 101;";
+        int[] due = {0, -1, 1};
+        for (int k = 0; k < 3; k++) {
+            is("why of " + k + " ahead of all", Due.made(text).why(k), due[k]);
+        }
+        BellowsRow x = Due.made(text);
+        for (int k : new int[] {0, 1, 2, 1, 0, 2}) {
+            is("why of " + k + " behind others", x.why(k), due[k]);
+        }
+    }
+
     private static void bursts() {
         SAID.says("16", "The HOUR in which a POT goes (PRESS above what it holds); NONE: never.");
         BellowsRow x = Due.made("pot step 0 holds 5;pot step 0 holds 6;pot step 0 holds 7;pot step 0 holds 8;pot step 0 holds 0;run 1 at 0;run 2 at 6;swing 6 and 8 for 2;");
@@ -535,6 +549,10 @@ public final class PipeEdgesTest {
         BellowsRow most = Due.made(Texts.pushed(990, 9999) + "run 1 at 999;");
         is("1000 is 999", most.under(0, 1), -1);
         is("1998 is 999", most.under(0, 999), -1);
+        BellowsRow just = Due.made(Texts.pushed(989, 9999) + "run 1 at 500;");
+        is("998", just.under(0, 498), -1);
+        is("999", just.under(0, 499), 0);
+        is("1100 is 999, not less", just.under(0, 600), 0);
         // at most 999: alike then, so WEAR comes once
         BellowsRow alike = Due.made(Texts.pushed(1998, 2) + "swing 998 and 999 for 2;");
         is("both 999", alike.under(0, 1), -1);
@@ -646,10 +664,7 @@ public final class PipeEdgesTest {
 
     /** A SLOT with these numbers, of four bytes each. */
     private static void put(BellowsRow x, int slot, long... numbers) {
-        x.row(slot, 2, numbers.length);
-        for (int i = 0; i < numbers.length; i++) {
-            x.write(slot, i, numbers[i]);
-        }
+        Due.row(x, slot, 2, numbers);
     }
 
     private static void lever() {
@@ -674,6 +689,12 @@ public final class PipeEdgesTest {
         is("eight", x.lever(0, 0), 100);
         put(x, 0, 0, 40, 0, 10, 0, 10, 0, 10, 0, 10, 0, 10, 0, 10, 2, 9, 7);
         is("eight, and one left over", x.lever(0, 0), 100);
+        for (int time = 0; time < 3; time++) {
+            put(x, 0, 2, 1, 0, 10, 2, 2, 0, 20, 1, 5, 0, 30, 2, 11, 0, 40);
+            is("eight unlike ones, right at last", x.lever(0, 0), 9);
+            put(x, 0, 0, 10, 1, 1, 0, 20, 2, 5, 0, 30, 1, 2, 0, 40, 2, 7);
+            is("eight unlike ones, down at last", x.lever(0, 0), 100);
+        }
         put(x, 0, 0, 200, 2, 18);
         is("of the other PIPE", x.lever(0, 1), 200);
         is("the PIPE's own stays", x.pipe(1, 5), 200);
@@ -702,11 +723,7 @@ public final class PipeEdgesTest {
         }
         x.row(0, 2, 60);
         is("sixty", x.lever(0, 0), -2);
-        x.row(0, 3, 4);
-        long[] wide = {1L << 32, 100, 2, 9};
-        for (int i = 0; i < 4; i++) {
-            x.write(0, i, wide[i]);
-        }
+        Due.row(x, 0, 3, 1L << 32, 100, 2, 9);
         is("a way that wraps round", x.lever(0, 0), -2);
         x.write(0, 0, 0);
         is("a way", x.lever(0, 0), 100);

@@ -3,17 +3,19 @@ import java.nio.file.Files;
 import java.nio.file.Path;
 import java.util.ArrayList;
 import java.util.List;
-import java.util.TreeSet;
+import java.util.Map;
+import java.util.TreeMap;
 
 /**
  * Answers under the sentence of the document that asks for them: one that is not due is told with
- * its sentence, and a sentence that the document does not have is told too. Sections are "What it
- * is", the terms "I" to "VI", and the promises "1" to "48".
+ * its sentence. Words that the document does not have, and sentences of it that no test names, are
+ * told as notes: they are no fault of the class, but the tests are to be read again. Sections are
+ * "What it is", the terms "I" to "VI", and the promises "1" to "48".
  */
 final class Said {
     private final Due due;
     private final String doc;
-    private final TreeSet<String> sections = new TreeSet<>();
+    private final Map<String, List<String>> sections = new TreeMap<>();
     private String now = "";
 
     Said(String name) {
@@ -21,7 +23,7 @@ final class Said {
         doc = readDoc();
     }
 
-    /** The property doc names DOC.md; without it sentences are not looked up. */
+    /** The property doc names DOC.md; without it, or where none is, sentences are not looked up. */
     private static String readDoc() {
         String path = System.getProperty("doc");
         if (path == null) {
@@ -30,18 +32,20 @@ final class Said {
         try {
             return "\n" + Files.readString(Path.of(path));
         } catch (IOException e) {
-            throw new IllegalStateException("no document at " + path, e);
+            System.out.println("note: no document at " + path);
+            return null;
         }
     }
 
     private String textOf(String section) {
         String head = section.equals("What it is") ? "\n## What it is\n"
-            : section.matches("[IV]+") ? "\n" + section + ". " : "\n## Promise " + section + ":";
+            : section.matches("[IV]+") ? "\n" + section + ". " : "\n## Promise " + section + ": ";
         int from = doc.indexOf(head);
         if (from < 0) {
             return "";
         }
-        String rest = doc.substring(from + head.length());
+        int heading = section.matches("[0-9]+") ? doc.indexOf('\n', from + 1) : from + head.length();
+        String rest = doc.substring(heading);
         String[] ends = section.matches("[IV]+") ? new String[] {"\nI", "\nV", "\n## "} : new String[] {"\n## "};
         int to = rest.length();
         for (String end : ends) {
@@ -54,9 +58,9 @@ final class Said {
     /** What follows is asked by these words of the section. */
     void says(String section, String words) {
         now = section + " \"" + words + "\": ";
-        sections.add(section);
+        sections.computeIfAbsent(section, s -> new ArrayList<>()).add(words);
         if (doc != null && !textOf(section).contains(words)) {
-            due.is(now + "stands in the document", 0, 1);
+            System.out.println("note: the document has no such words: " + now);
         }
     }
 
@@ -99,16 +103,28 @@ final class Said {
         }
     }
 
-    /** Ends with exit code 1 if an answer was not due, or one of these sections had no test. */
-    void end(String... all) {
-        List<String> untold = new ArrayList<>();
-        for (String section : all) {
-            if (!sections.contains(section)) {
-                untold.add(section);
+    /** What of a section no test has named; its call's form, between two signs `, is the face's matter. */
+    private String untold(String section) {
+        char[] left = textOf(section).replace("```text", "").replace("```", "").toCharArray();
+        String text = new String(left);
+        for (String words : sections.getOrDefault(section, List.of())) {
+            int at = text.indexOf(words);
+            for (int i = at; at >= 0 && i < at + words.length(); i++) {
+                left[i] = ' ';
             }
         }
+        return new String(left).replaceAll("`[^`]*`:", "");
+    }
+
+    /** Ends with exit code 1 if an answer was not due, or one of these sections had no test. */
+    void end(String... all) {
         now = "";
-        is("sections without a test: " + untold, untold.size(), 0);
+        for (String section : all) {
+            is("section " + section + " has a test", sections.containsKey(section) ? 1 : 0, 1);
+            if (doc != null && untold(section).matches("(?s).*[A-Za-z0-9].*")) {
+                System.out.println("note: no test names all of section " + section + ": " + untold(section).trim());
+            }
+        }
         due.end();
     }
 }

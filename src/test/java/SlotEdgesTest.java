@@ -24,39 +24,31 @@ public final class SlotEdgesTest {
         SAID.end("42", "43", "44", "45", "46", "47", "48");
     }
 
-    /** A SLOT with a row of these numbers. */
-    private static void put(BellowsRow x, int slot, int width, long... numbers) {
-        x.row(slot, width, numbers.length);
-        for (int i = 0; i < numbers.length; i++) {
-            x.write(slot, i, numbers[i]);
-        }
-    }
-
     private static void judge() {
         SAID.says("42", "How many HOURS of a SLOT's row of PRESSES (from HOUR 0 on) are so as they are, ahead of the first that is not (beyond HOURS: not).");
         BellowsRow x = Due.made("run 2 at 5;run 1 at 0;run 1 at 999;");
-        put(x, 0, 1, 5, 5, 0, 999);
+        Due.row(x, 0, 1, 5, 5, 0, 999);
         is("all", x.judge(0), 4);
-        put(x, 0, 1, 5, 5, 0);
+        Due.row(x, 0, 1, 5, 5, 0);
         is("all of a shorter row", x.judge(0), 3);
-        put(x, 0, 1, 5, 5, 0, 999, 0);
+        Due.row(x, 0, 1, 5, 5, 0, 999, 0);
         is("beyond HOURS", x.judge(0), 4);
-        put(x, 0, 1, 5, 5, 0, 998);
+        Due.row(x, 0, 1, 5, 5, 0, 998);
         is("the last is not", x.judge(0), 3);
-        put(x, 0, 1, 4, 5, 0, 999);
+        Due.row(x, 0, 1, 4, 5, 0, 999);
         is("the first is not", x.judge(0), 0);
-        put(x, 0, 1, 5, 6, 0, 999);
+        Due.row(x, 0, 1, 5, 6, 0, 999);
         is("those behind the first that is not do not count", x.judge(0), 1);
-        put(x, 0, 1);
+        Due.row(x, 0, 1);
         is("a row of no numbers", x.judge(0), 0);
-        put(x, 3, 3, 5);
+        Due.row(x, 3, 3, 5);
         is("SLOT 3", x.judge(3), 1);
-        put(x, 3, 3, 5 + (1L << 32));
+        Due.row(x, 3, 3, 5 + (1L << 32));
         is("a number that would wrap round", x.judge(3), 0);
-        put(x, 3, 3, -5);
+        Due.row(x, 3, 3, -5);
         is("a number below 0", x.judge(3), 0);
         BellowsRow none = new BellowsRow();
-        put(none, 0, 1, 0, 0);
+        Due.row(none, 0, 1, 0, 0);
         is("no HOURS", none.judge(0), 0);
         BellowsRow all = Due.made("run 1000 at 0;");
         all.row(0, 0, 60);
@@ -72,31 +64,31 @@ public final class SlotEdgesTest {
     private static void other() {
         SAID.says("43", "The HOUR in which a PIPE would go, if PRESSES were a SLOT's row (cut to 0 .. 999), HOURS as many as it has; NONE: never.");
         BellowsRow x = Due.made(Texts.pushed(100, 9999) + Texts.pipe(990, 9999) + "run 1 at 500;");
-        put(x, 0, 1, 0, 100, 101);
+        Due.row(x, 0, 1, 0, 100, 101);
         is("in the last", x.other(0, 0), 2);
-        put(x, 0, 1, 101, 0);
+        Due.row(x, 0, 1, 101, 0);
         is("in the first", x.other(0, 0), 0);
-        put(x, 0, 1, 100, 100);
+        Due.row(x, 0, 1, 100, 100);
         is("never", x.other(0, 0), -1);
-        put(x, 0, 1);
+        Due.row(x, 0, 1);
         is("no HOURS", x.other(0, 0), -1);
-        put(x, 0, 3, 999, 1000, Long.MAX_VALUE, 1L << 32);
+        Due.row(x, 0, 3, 999, 1000, Long.MAX_VALUE, 1L << 32);
         is("cut to 999", x.other(0, 1), -1);
         is("cut to 999, not to less", x.other(0, 0), 0);
-        put(x, 0, 3, -1, -999, Long.MIN_VALUE, -(1L << 32) + 500);
+        Due.row(x, 0, 3, -1, -999, Long.MIN_VALUE, -(1L << 32) + 500);
         is("cut to 0", x.other(0, 0), -1);
-        put(x, 3, 3, 0, Long.MAX_VALUE);
+        Due.row(x, 3, 3, 0, Long.MAX_VALUE);
         is("SLOT 3", x.other(3, 0), 1);
         is("HOURS stay", x.goes(0), 0);
         is("HOURS stay as many", x.count(2), 1);
         BellowsRow y = Due.made(Texts.weighty(100, 52));
-        put(y, 0, 3, -5, -7, 0);
+        Due.row(y, 0, 3, -5, -7, 0);
         is("below 0 is alike with 0", y.other(0, 0), -1);
-        put(y, 0, 3, 999, 1000, 1001);
+        Due.row(y, 0, 3, 999, 1000, 1001);
         is("above 999 is alike with 999", y.other(0, 0), -1);
-        put(y, 0, 3, 999, 998, 1000);
+        Due.row(y, 0, 3, 999, 998, 1000);
         is("unlike ones", y.other(0, 0), 1);
-        put(y, 0, 3, 0, 1, 0);
+        Due.row(y, 0, 3, 0, 1, 0);
         is("HOUR 0 at 0 is not unlike", y.other(0, 0), 2);
         BellowsRow z = Due.made(Texts.pushed(100, 9999));
         z.row(1, 0, 60);
@@ -219,7 +211,7 @@ public final class SlotEdgesTest {
     private static void rowRefused() {
         SAID.says("46", "-2: there is no such SLOT or WIDTH (0 .. 3), or n is above 60;");
         BellowsRow x = Due.made("run 1000 at 7;");
-        put(x, 1, 1, 7, 7, 7);
+        Due.row(x, 1, 1, 7, 7, 7);
         for (int wrong : Texts.outside(0, 3)) {
             is("SLOT " + wrong, x.row(wrong, 0, 1), -2);
             is("WIDTH " + wrong, x.row(1, wrong, 1), -2);
@@ -263,7 +255,7 @@ public final class SlotEdgesTest {
     /** Whether a number of a WIDTH, as it was cut, is a PRESS: judge tells, for HOUR 0 has it. */
     private static int stands(int width, long v, int press) {
         BellowsRow x = Due.made("run 1 at " + press + ";");
-        put(x, 0, width, v);
+        Due.row(x, 0, width, v);
         return x.judge(0);
     }
 
@@ -291,18 +283,18 @@ public final class SlotEdgesTest {
         long[] ones = {255, 65535, 4294967295L, -1L};
         long[] most = {127, 32767, 2147483647L, Long.MAX_VALUE};
         for (int width = 0; width < 4; width++) {
-            put(x, 0, width, ones[width]);
+            Due.row(x, 0, width, ones[width]);
             is("all ones of WIDTH " + width, x.other(0, 0), -1);
-            put(x, 0, width, most[width]);
+            Due.row(x, 0, width, most[width]);
             is("the most of WIDTH " + width, x.other(0, 0), 0);
-            put(x, 0, width, width == 3 ? Long.MIN_VALUE : most[width] + 1);
+            Due.row(x, 0, width, width == 3 ? Long.MIN_VALUE : most[width] + 1);
             is("one more of WIDTH " + width, x.other(0, 0), -1);
         }
     }
 
     private static void writeRefused() {
         BellowsRow x = Due.made("run 1000 at 7;");
-        put(x, 1, 1, 7, 7, 7);
+        Due.row(x, 1, 1, 7, 7, 7);
         SAID.says("47", "-2: there is no such SLOT; -6: it has nothing; -7: there is no such number.");
         for (int slot : Texts.outside(0, 3)) {
             is("SLOT " + slot, x.write(slot, 0, 1), -2);
@@ -323,7 +315,7 @@ public final class SlotEdgesTest {
     private static void paste() {
         SAID.says("48", "So many numbers of a SLOT's row, from one on, are put to another one's (or its own), from one on, as they were: 0.");
         BellowsRow x = Due.made("run 1 at 1;run 1 at 2;run 1 at 3;run 1 at 4;run 1 at 5;");
-        put(x, 0, 1, 1, 2, 3, 4, 5);
+        Due.row(x, 0, 1, 1, 2, 3, 4, 5);
         x.row(3, 1, 5);
         is("all", x.paste(0, 0, 3, 0, 5), 0);
         is("all are there", x.judge(3), 5);
@@ -352,26 +344,26 @@ public final class SlotEdgesTest {
     private static void pasteToItself() {
         SAID.says("48", "are put to another one's (or its own), from one on, as they were: 0.");
         BellowsRow up = Due.made("run 1 at 1;run 1 at 1;run 1 at 2;run 1 at 3;run 1 at 4;");
-        put(up, 0, 1, 1, 2, 3, 4, 5);
+        Due.row(up, 0, 1, 1, 2, 3, 4, 5);
         is("one farther", up.paste(0, 0, 0, 1, 4), 0);
         is("as they were", up.judge(0), 5);
         BellowsRow down = Due.made("run 1 at 2;run 1 at 3;run 1 at 4;run 1 at 5;run 1 at 5;");
-        put(down, 0, 1, 1, 2, 3, 4, 5);
+        Due.row(down, 0, 1, 1, 2, 3, 4, 5);
         is("one nearer", down.paste(0, 1, 0, 0, 4), 0);
         is("as they were", down.judge(0), 5);
         is("where they are", down.paste(0, 0, 0, 0, 5), 0);
         is("as they were", down.judge(0), 5);
         BellowsRow two = Due.made("run 1 at 1;run 1 at 2;run 1 at 1;run 1 at 2;run 1 at 3;");
-        put(two, 0, 1, 1, 2, 3, 4, 5);
+        Due.row(two, 0, 1, 1, 2, 3, 4, 5);
         is("two farther", two.paste(0, 0, 0, 2, 3), 0);
         is("as they were", two.judge(0), 5);
     }
 
     private static void pasteRefused() {
         BellowsRow x = Due.made("run 60 at 7;");
-        put(x, 0, 1, 7, 7, 7, 7, 7);
-        put(x, 1, 1, 7, 7, 7);
-        put(x, 2, 2, 7, 7, 7);
+        Due.row(x, 0, 1, 7, 7, 7, 7, 7);
+        Due.row(x, 1, 1, 7, 7, 7);
+        Due.row(x, 2, 2, 7, 7, 7);
         SAID.says("48", "-2: there is no such SLOT; -6: one has nothing; -8: they are not of one WIDTH;");
         for (int slot : Texts.outside(0, 3)) {
             is("from SLOT " + slot, x.paste(slot, 0, 0, 0, 1), -2);

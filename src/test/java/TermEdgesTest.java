@@ -2,25 +2,20 @@
 public final class TermEdgesTest {
     private static final Said SAID = new Said("TermEdgesTest");
 
-    private static final String POT = "pot step 0 holds 9;";
-    private static final String FLAT = "pipe 0 to 1 bore 1 by right 100 bellows 0 life 1;";
+    private static final String POT = Texts.POT;
+    private static final String FLAT = Texts.FLAT;
 
     /** A PIPE whose LOAD is the PRESS: LEVER 100, bore 1, HOLDS 100. */
     private static String even(int life) {
-        return "pot step 0 holds 999;pot step 1 holds 999;pipe 0 to 1 bore 1 by right 100 down 1 bellows 100 life " + life + " prop;";
-    }
-
-    /** A CLOUD from 50, 0 of bore 1, whose square of the reach is PRESS times minutes. */
-    private static String cloud(int press) {
-        return POT + POT + FLAT + "run 1 at " + press + ";";
+        return Texts.pushed(100, life);
     }
 
     private static String flame(int x, int y) {
-        return "room at " + x + " " + y + " day 1 night 1 flame;";
+        return Texts.flame(x, y, 1);
     }
 
     private static String room(int x, int y) {
-        return "room at " + x + " " + y + " day 1 night 1;";
+        return Texts.room(x, y, 1);
     }
 
     private static void is(String call, long got, long want) {
@@ -45,7 +40,7 @@ public final class TermEdgesTest {
         days();
         there();
         asked();
-        SAID.end("What it is", "II", "III", "IV", "V", "VI");
+        SAID.end("II", "III", "IV", "V", "VI");
     }
 
     private static void places() {
@@ -63,7 +58,7 @@ public final class TermEdgesTest {
         for (int k = 0; k < 4; k++) {
             is("height " + k, x.height(k), heights[k]);
         }
-        SAID.says("II", "to the second: as far right as these are apart, as high as that is.");
+        SAID.says("II", "A PIPE begins at its first POT and comes by MOVES (right: x more, up, down: y) to the second: as far right as these are apart, as high as that is.");
         SAID.good(5, pots + "pipe 0 to 3 bore 1 by right 300 down 100 bellows 0 life 1;");
         SAID.bad(2, pots + "pipe 0 to 3 bore 1 by right 299 down 100 ^bellows 0 life 1;");
         SAID.bad(2, pots + "pipe 0 to 3 bore 1 by right 301 down 100 ^bellows 0 life 1;");
@@ -217,6 +212,9 @@ public final class TermEdgesTest {
             is("swing, HOUR " + h, y.press(h), swings[h]);
         }
         is("the second one's never comes of one HOUR", SAID.good(2, "pot step 0 holds 5;swing 1 and 9 for 1;").bursts(0), -1);
+        BellowsRow z = SAID.good(60, "run 1 at 0;".repeat(59) + "swing 8 and 9 for 2;");
+        is("the sixtieth LINE's first", z.press(59), 8);
+        is("the sixtieth LINE's second", z.press(60), 9);
         is("it comes of two", SAID.good(2, "pot step 0 holds 5;swing 1 and 9 for 2;").bursts(0), 1);
     }
 
@@ -324,7 +322,7 @@ public final class TermEdgesTest {
             is("not left " + m, litAt("right", 50 - 3 * m, 0), 0);
             is("not up " + m, litAt("down", 50, 3 * m), 0);
             is("not down " + m, litAt("up", 50, -3 * m), 0);
-            is("minute " + m, SAID.good(6, cloud(0) + "wind right 3;" + flame(50 + 3 * m, 0)).lights(0, 0), m);
+            is("minute " + m, SAID.good(6, Texts.cloud(0) + "wind right 3;" + flame(50 + 3 * m, 0)).lights(0, 0), m);
         }
         is("after no minute", litAt("right", 50, 0), 0);
         is("after 61 minutes", litAt("right", 50 + 3 * 61, 0), 0);
@@ -332,16 +330,16 @@ public final class TermEdgesTest {
         int[][] reaches = {{0, 60, 0}, {1, 1, 1}, {3, 1, 1}, {4, 1, 2}, {8, 1, 2}, {9, 1, 3}, {99, 1, 9}, {100, 1, 10}, {101, 1, 10}, {25, 4, 10}, {999, 60, 244},
             {960, 60, 240}, {959, 60, 239}};
         for (int[] r : reaches) {
-            is("PRESS " + r[0] + ", minute " + r[1], SAID.good(4, cloud(r[0])).reach(0, 0, r[1]), r[2]);
+            is("PRESS " + r[0] + ", minute " + r[1], SAID.good(4, Texts.cloud(r[0])).reach(0, 0, r[1]), r[2]);
         }
-        is("the greatest of all", SAID.good(4, cloud(999).replace("bore 1 ", "bore 40 ")).reach(0, 0, 60), 1548);
-        is("bore 36 of PRESS 1", SAID.good(4, cloud(1).replace("bore 1 ", "bore 36 ")).reach(0, 0, 1), 6);
-        is("bore 35 of PRESS 1", SAID.good(4, cloud(1).replace("bore 1 ", "bore 35 ")).reach(0, 0, 1), 5);
+        is("the greatest of all", SAID.good(4, Texts.cloud(999).replace("bore 1 ", "bore 40 ")).reach(0, 0, 60), 1548);
+        is("bore 36 of PRESS 1", SAID.good(4, Texts.cloud(1).replace("bore 1 ", "bore 36 ")).reach(0, 0, 1), 6);
+        is("bore 35 of PRESS 1", SAID.good(4, Texts.cloud(1).replace("bore 1 ", "bore 35 ")).reach(0, 0, 1), 5);
     }
 
     /** Whether a CLOUD of PRESS 0, which reaches 0 and drifts by 3, lights a ROOM that is moved to a place. */
     private static int litAt(String way, int x, int y) {
-        return -Due.made(cloud(0) + "wind " + way + " 3;" + flame(900, 500)).moved(0, 0, 0, x, y);
+        return -Due.made(Texts.cloud(0) + "wind " + way + " 3;" + flame(900, 500)).moved(0, 0, 0, x, y);
     }
 
     private static void lighting() {
@@ -350,36 +348,36 @@ public final class TermEdgesTest {
         int[][] rooms = {{50, 0, 1}, {60, 0, 1}, {61, 0, 2}, {40, 0, 1}, {39, 0, 2}, {50, 10, 1}, {50, 11, 2}, {55, 5, 1}, {55, 6, 2}, {45, 5, 1}, {45, 6, 2},
             {44, 5, 2}, {64, 0, 2}, {65, 0, 3}};
         for (int[] r : rooms) {
-            is("a ROOM at " + r[0] + " " + r[1], SAID.good(5, cloud(100) + flame(r[0], r[1])).lights(0, 0), r[2]);
+            is("a ROOM at " + r[0] + " " + r[1], SAID.good(5, Texts.cloud(100) + flame(r[0], r[1])).lights(0, 0), r[2]);
         }
         SAID.says("V", "It LIGHTS in the first minute 1 .. 60 in which a ROOM with a flame is in it;");
         // 15 times 60 is 30 times 30; 61 times 61, but 60 times 61 is less
-        is("minute 60", SAID.good(5, cloud(15) + flame(80, 0)).lights(0, 0), 60);
-        is("one farther", SAID.good(5, cloud(15) + flame(81, 0)).lights(0, 0), -1);
-        is("minute 61 is none", SAID.good(5, cloud(61) + flame(111, 0)).lights(0, 0), -1);
-        is("one nearer", SAID.good(5, cloud(61) + flame(110, 0)).lights(0, 0), 60);
-        is("minute 1", SAID.good(5, cloud(100) + flame(50, 0)).lights(0, 0), 1);
-        is("no flame", SAID.good(5, cloud(100) + room(50, 0)).lights(0, 0), -1);
-        is("the flame alone", SAID.good(6, cloud(100) + room(50, 0) + flame(61, 0)).lights(0, 0), 2);
-        is("the first of two", SAID.good(6, cloud(100) + flame(65, 0) + flame(61, 0)).lights(0, 0), 2);
-        is("the last of twelve", SAID.good(16, cloud(100) + room(50, 0).repeat(11) + flame(50, 0)).lights(0, 0), 1);
-        is("no ROOMS", SAID.good(4, cloud(100)).lights(0, 0), -1);
+        is("minute 60", SAID.good(5, Texts.cloud(15) + flame(80, 0)).lights(0, 0), 60);
+        is("one farther", SAID.good(5, Texts.cloud(15) + flame(81, 0)).lights(0, 0), -1);
+        is("minute 61 is none", SAID.good(5, Texts.cloud(61) + flame(111, 0)).lights(0, 0), -1);
+        is("one nearer", SAID.good(5, Texts.cloud(61) + flame(110, 0)).lights(0, 0), 60);
+        is("minute 1", SAID.good(5, Texts.cloud(100) + flame(50, 0)).lights(0, 0), 1);
+        is("no flame", SAID.good(5, Texts.cloud(100) + room(50, 0)).lights(0, 0), -1);
+        is("the flame alone", SAID.good(6, Texts.cloud(100) + room(50, 0) + flame(61, 0)).lights(0, 0), 2);
+        is("the first of two", SAID.good(6, Texts.cloud(100) + flame(65, 0) + flame(61, 0)).lights(0, 0), 2);
+        is("the last of twelve", SAID.good(16, Texts.cloud(100) + room(50, 0).repeat(11) + flame(50, 0)).lights(0, 0), 1);
+        is("no ROOMS", SAID.good(4, Texts.cloud(100)).lights(0, 0), -1);
     }
 
     private static void taking() {
         SAID.says("V", "it takes all ROOMS 2 r or less away then.");
         // lit in minute 1, r 10
-        BellowsRow x = SAID.good(13, cloud(100) + flame(50, 0) + room(70, 0) + room(71, 0) + room(30, 0) + room(29, 0) + room(50, 20) + room(50, 21)
+        BellowsRow x = SAID.good(13, Texts.cloud(100) + flame(50, 0) + room(70, 0) + room(71, 0) + room(30, 0) + room(29, 0) + room(50, 20) + room(50, 21)
             + room(60, 10) + flame(60, 11));
         is("20 away, not 21", x.taken(0, 0), 1 + 2 + 8 + 32 + 128);
         // lit in minute 2, r 14, 28 away
-        BellowsRow y = SAID.good(7, cloud(100) + flame(61, 0) + room(78, 0) + room(79, 0));
+        BellowsRow y = SAID.good(7, Texts.cloud(100) + flame(61, 0) + room(78, 0) + room(79, 0));
         is("28 away, not 29", y.taken(0, 0), 3);
         // from where it has drifted to: minute 1, at 55
-        BellowsRow z = SAID.good(10, cloud(100) + "wind right 5;" + flame(65, 0) + room(75, 0) + room(76, 0) + room(35, 0) + room(34, 0));
+        BellowsRow z = SAID.good(10, Texts.cloud(100) + "wind right 5;" + flame(65, 0) + room(75, 0) + room(76, 0) + room(35, 0) + room(34, 0));
         is("drifted", z.taken(0, 0), 1 + 2 + 8);
-        is("unlit it takes none", SAID.good(5, cloud(100) + room(50, 0)).taken(0, 0), 0);
-        is("reaching 0 it takes what is there", SAID.good(7, cloud(0) + flame(50, 0) + room(50, 0) + room(51, 0)).taken(0, 0), 3);
+        is("unlit it takes none", SAID.good(5, Texts.cloud(100) + room(50, 0)).taken(0, 0), 0);
+        is("reaching 0 it takes what is there", SAID.good(7, Texts.cloud(0) + flame(50, 0) + room(50, 0) + room(51, 0)).taken(0, 0), 3);
     }
 
     private static void days() {

@@ -80,11 +80,20 @@ public final class TextEdgesTest {
                     behind.append(' ').append(tokens[j]);
                 }
                 boolean isNumber = Character.isDigit(tokens[i].charAt(0));
+                if (Character.isLetter(tokens[i].charAt(0))) {
+                    SAID.bad(1, ahead + "^z" + tokens[i].substring(1) + behind);
+                    SAID.bad(1, ahead + "^" + tokens[i].substring(0, tokens[i].length() - 1) + "z" + behind);
+                    SAID.bad(1, ahead + "^" + tokens[i] + "z" + behind);
+                    SAID.bad(1, ahead + "^z" + tokens[i] + behind);
+                }
                 SAID.bad(1, ahead + "^zz" + behind);
                 SAID.bad(1, ahead + "^#" + behind);
                 SAID.bad(1, ahead + (isNumber ? "^;" : "^7") + behind);
                 if (i > 0) {
                     SAID.bad(1, ahead + "^");
+                }
+                if (!mayBeLeftOut(line, i, tokens[i])) {
+                    SAID.bad(1, ahead + "^" + behind.toString().trim());
                 }
                 ahead.append(tokens[i]).append(' ');
             }
@@ -97,6 +106,13 @@ public final class TextEdgesTest {
         SAID.bad(1, "change pot ^needs gas day 1;");
         SAID.bad(1, POTS + "pipe 0 to 1 ^by right 100 down 5 bore 1 bellows 0 life 1;");
         SAID.bad(1, POTS + "pipe 0 to 1 bore 1 by right 100 down 5 ^life 1 bellows 0;");
+    }
+
+    /** Whether a LINE without this TOKEN has no FAULT just behind it: it need not stand, or the next one takes its place. */
+    private static boolean mayBeLeftOut(String line, int i, String token) {
+        boolean isSubject = token.matches("draw|push|metal|gas");
+        boolean isX = line.startsWith("room") && i == 2;
+        return isSubject || isX || token.equals("flame") || line.startsWith("pipe") && token.equals("prop");
     }
 
     private static void optional() {
